@@ -1,0 +1,76 @@
+import java.util.function.LongSupplier;
+
+/** Counts the answers that are not as due, and ends a test with exit code 1 if there was one. */
+final class Check {
+    static final String BOUNDS = "IndexOutOfBoundsException";
+    static final String ARGUMENT = "IllegalArgumentException";
+    static final String STATE = "IllegalStateException";
+
+    private static int wrong = 0;
+    private static int checked = 0;
+
+    private Check() {
+    }
+
+    static void is(String what, long want, long got) {
+        checked++;
+        if (want != got) {
+            wrong++;
+            System.out.println(what + " answered " + got + ", due is " + want);
+        }
+    }
+
+    static void isTrue(String what, boolean got) {
+        is(what, 1, got ? 1 : 0);
+    }
+
+    static void isFalse(String what, boolean got) {
+        is(what, 0, got ? 1 : 0);
+    }
+
+    static void isDouble(String what, double want, double got) {
+        checked++;
+        if (want != got) {
+            wrong++;
+            System.out.println(what + " answered " + got + ", due is " + want);
+        }
+    }
+
+    static void isText(String what, String want, String got) {
+        checked++;
+        if (!want.equals(got)) {
+            wrong++;
+            System.out.println(what + " answered " + got + ", due is " + want);
+        }
+    }
+
+    /** What a call comes to: its answer, or the name of the exception of just the promised class. */
+    static String outcome(LongSupplier call) {
+        try {
+            return Long.toString(call.getAsLong());
+        } catch (RuntimeException thrown) {
+            return thrown.getClass().getSimpleName();
+        }
+    }
+
+    /** The call must throw just this, and leave the zoo as it was. */
+    static void refuses(RuleZoo zoo, String what, String exception, LongSupplier call) {
+        long before = zoo.digest();
+        isText(what, exception, outcome(call));
+        is(what + ", digest behind it", before, zoo.digest());
+    }
+
+    /** The call must answer this, and leave the zoo as it was. */
+    static void tells(RuleZoo zoo, String what, long want, LongSupplier call) {
+        long before = zoo.digest();
+        isText(what, Long.toString(want), outcome(call));
+        is(what + ", digest behind it", before, zoo.digest());
+    }
+
+    static void end() {
+        System.out.println(checked + " checked, " + wrong + " wrong");
+        if (checked == 0 || wrong != 0) {
+            System.exit(1);
+        }
+    }
+}
