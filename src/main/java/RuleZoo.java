@@ -203,7 +203,7 @@ public final class RuleZoo {
     public double mean() {
         int there = now.withFate(THERE);
         if (there == 0) {
-            return 0;
+            return 0.0;
         }
         return (double) now.hungerOfAll() / there;
     }
@@ -226,7 +226,7 @@ public final class RuleZoo {
 
     // ---- trying out
 
-    /** Days behind which a rule is gone that is brought to this cage now; one more than most if not by then. */
+    /** Days behind which a rule is gone that is in this cage from now on; mostDays + 1 if not by then. */
     private int daysTillGone(int rule, int cage, int mostDays) {
         trial.copyFrom(now);
         trial.settle(rule, cage);
@@ -461,7 +461,7 @@ public final class RuleZoo {
             // A bit for each rule of the row: no more rules than a long has bits.
             long inRow = 0;
             int next = rule;
-            while (length < MOST_RULES && isThere(next) && (inRow >>> next & 1L) == 0) {
+            while (length < MOST_RULES && isThere(next) && ((inRow >>> next) & 1L) == 0) {
                 inRow |= 1L << next;
                 length++;
                 next = preyOf(next);
@@ -509,7 +509,7 @@ public final class RuleZoo {
 
         private void starve(long ate) {
             for (int rule = 0; rule < total; rule++) {
-                if (isThere(rule) && (ate >>> rule & 1L) == 0) {
+                if (isThere(rule) && ((ate >>> rule) & 1L) == 0) {
                     hungerOf[rule]++;
                     if (hungerOf[rule] > MOST_HUNGER) {
                         leave(rule, STARVED);

@@ -236,6 +236,8 @@ public final class DaysTest {
         }
         zoo.free(zoo.cage(11));
         zoo.free(zoo.cage(12));
+        Check.is("its offspring will take after what it ate before now, and eat one that has hunger",
+                zoo.count(3) + 1, zoo.foresee(2, 1));
         zoo.pass(1);
         Check.is("two cages free: no more than one on a day", 1, zoo.rule(1, 10));
         Check.is("it takes two meals", 2, zoo.rule(1, 5));
@@ -245,6 +247,7 @@ public final class DaysTest {
         Check.is("without a meal on this day", 2, zoo.rule(1, 10));
         Check.is("nothing in store", 0, zoo.rule(1, 5));
         Check.is("in the second one", 1, zoo.rule(zoo.cage(12), 7));
+        Check.is("the offspring in the first one ate", 1, zoo.rule(zoo.cage(11), 6));
     }
 
     private static void noOffspringBehindSixty() {
