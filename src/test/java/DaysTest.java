@@ -1,7 +1,6 @@
 /** How a day goes, and promise 14: pass. */
 public final class DaysTest {
     public static void main(String[] args) {
-        passRefuses();
         passTellsAllThatAreGone();
         theEatenEatNoMore();
         theFirstByNumberEatsFirst();
@@ -18,19 +17,6 @@ public final class DaysTest {
         oneOffspringADay();
         theBornDoNotAgeNorBear();
         Check.end();
-    }
-
-    private static void passRefuses() {
-        RuleZoo zoo = new RuleZoo();
-        zoo.come(0, 1, 5);
-        zoo.come(1, 1, 4);
-        for (int days : new int[] {0, -1, 51, Integer.MIN_VALUE, Integer.MAX_VALUE}) {
-            Check.refuses(zoo, "pass(" + days + ")", Check.ARGUMENT, () -> zoo.pass(days));
-        }
-        Check.is("pass(50)", 2, zoo.pass(50));
-        Check.is("the day", 50, zoo.count(0));
-        Check.is("pass(1)", 0, zoo.pass(1));
-        Check.is("the day", 51, zoo.count(0));
     }
 
     /** A breeder in the cage 5, with two meals beside it. */

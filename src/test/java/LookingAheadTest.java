@@ -1,9 +1,6 @@
 /** Promises 15 to 21: foresee, lives, ends, last, advise, mean, digest. */
 public final class LookingAheadTest {
-    private static final int[] NO_RULES = {-1, 2, 60, Integer.MIN_VALUE, Integer.MAX_VALUE};
-
     public static void main(String[] args) {
-        wrongAsksAreRefused();
         foreseeTellsWhatPassBrings();
         foreseeOfOneThatBears();
         livesTellsTheDay();
@@ -17,24 +14,6 @@ public final class LookingAheadTest {
         meanTells();
         digestTells();
         Check.end();
-    }
-
-    private static void wrongAsksAreRefused() {
-        RuleZoo zoo = new RuleZoo();
-        zoo.come(0, 1, 9);
-        zoo.come(1, 1, 8);
-        for (int days : new int[] {0, -1, 51, Integer.MIN_VALUE, Integer.MAX_VALUE}) {
-            Check.refuses(zoo, "foresee(" + days + ", 0)", Check.ARGUMENT, () -> zoo.foresee(days, 0));
-            Check.refuses(zoo, "foresee(" + days + ", 4)", Check.ARGUMENT, () -> zoo.foresee(days, 4));
-        }
-        for (int what : new int[] {-1, 4, Integer.MIN_VALUE, Integer.MAX_VALUE}) {
-            Check.refuses(zoo, "foresee(1, " + what + ")", Check.BOUNDS, () -> zoo.foresee(1, what));
-            Check.refuses(zoo, "foresee(50, " + what + ")", Check.BOUNDS, () -> zoo.foresee(50, what));
-        }
-        for (int rule : NO_RULES) {
-            Check.refuses(zoo, "lives " + rule, Check.BOUNDS, () -> zoo.lives(rule));
-            Check.refuses(zoo, "advise " + rule, Check.BOUNDS, () -> zoo.advise(rule));
-        }
     }
 
     private static void foreseeTellsWhatPassBrings() {

@@ -4,7 +4,8 @@ import java.util.function.LongSupplier;
 /** All promises: long runs of calls, drawn by a fixed seed, against ModelZoo. */
 public final class ModelTest {
     private static final int RUNS = 400;
-    private static final int CALLS = 512;
+    /** With a digest() each eighth time no zoo sees more than the 512 calls that the document promises. */
+    private static final int CALLS = 455;
     private static final int[] STRANGE = {-1, -2, 60, 100, Integer.MIN_VALUE, Integer.MAX_VALUE};
 
     private static final Random DRAW = new Random(20261119L);
@@ -56,7 +57,7 @@ public final class ModelTest {
     /** Rules come to the first free cage, so that offspring often find none. */
     private static void fillUp(String when, RuleZoo zoo, ModelZoo model) {
         for (int cage = 0; cage < 20; cage++) {
-            if (zoo.cage(cage) == -1 && zoo.count(2) < 60) {
+            if (model.cage(cage) == -1 && model.count(2) < 60) {
                 int comesTo = cage;
                 int kind = DRAW.nextInt(6);
                 int number = 1 + DRAW.nextInt(15);
@@ -75,8 +76,8 @@ public final class ModelTest {
         return from + DRAW.nextInt(to - from + 1);
     }
 
-    private static int aRule(RuleZoo zoo) {
-        return DRAW.nextInt(6) == 0 ? among(0, zoo.count(2)) : zoo.cage(DRAW.nextInt(20));
+    private static int aRule(ModelZoo model) {
+        return DRAW.nextInt(6) == 0 ? among(0, model.count(2)) : model.cage(DRAW.nextInt(20));
     }
 
     private static void same(String what, LongSupplier want, LongSupplier got) {
@@ -84,7 +85,7 @@ public final class ModelTest {
     }
 
     private static void change(String when, RuleZoo zoo, ModelZoo model, int daysAtOnce) {
-        int rule = aRule(zoo);
+        int rule = aRule(model);
         int cage = among(0, 20);
         int kind = among(0, 6);
         int number = among(0, 16);
@@ -116,8 +117,8 @@ public final class ModelTest {
     }
 
     private static void ask(String when, RuleZoo zoo, ModelZoo model) {
-        int rule = aRule(zoo);
-        int other = aRule(zoo);
+        int rule = aRule(model);
+        int other = aRule(model);
         int what = among(0, 12);
         int less = among(0, 4);
         int days = among(0, 51);
@@ -161,7 +162,7 @@ public final class ModelTest {
             case 12:
                 if (DRAW.nextInt(4) == 0) {
                     same(when + "advise(" + rule + ")", () -> model.advise(rule), () -> zoo.advise(rule));
-                    advisedAway += advisesAway(zoo, rule) ? 1 : 0;
+                    advisedAway += advisesAway(model, rule) ? 1 : 0;
                 }
                 break;
             default:
@@ -169,7 +170,7 @@ public final class ModelTest {
         }
     }
 
-    private static boolean advisesAway(RuleZoo zoo, int rule) {
-        return rule >= 0 && rule < zoo.count(2) && zoo.advise(rule) != zoo.rule(rule, 8);
+    private static boolean advisesAway(ModelZoo model, int rule) {
+        return rule >= 0 && rule < model.count(2) && model.advise(rule) != model.rule(rule, 8);
     }
 }

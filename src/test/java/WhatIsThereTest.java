@@ -1,11 +1,8 @@
 /** Promises 7 to 13: rule, cage, count, may, prey, hunters, chain. */
 public final class WhatIsThereTest {
-    private static final int[] NO_RULES = {-1, 3, 60, Integer.MIN_VALUE, Integer.MAX_VALUE};
-
     public static void main(String[] args) {
         ruleTellsEachThing();
         ruleTellsOfThoseThatAreGone();
-        wrongAsksAreRefused();
         cageTells();
         countTells();
         mayByKind();
@@ -64,28 +61,6 @@ public final class WhatIsThereTest {
         rows("let out", zoo, 0, 1, 12, 28, 9, 10, 1, 1, -1, -1, 3, 0, -1);
         zoo.pass(3);
         rows("let out long ago", zoo, 0, 1, 12, 28, 9, 10, 1, 1, -1, -1, 3, 0, -1);
-    }
-
-    private static void wrongAsksAreRefused() {
-        RuleZoo zoo = three();
-        for (int rule : NO_RULES) {
-            Check.refuses(zoo, "rule " + rule, Check.BOUNDS, () -> zoo.rule(rule, 0));
-            Check.refuses(zoo, "may " + rule, Check.BOUNDS, () -> zoo.may(rule, 0) ? 1 : 0);
-            Check.refuses(zoo, "may 0 eat " + rule, Check.BOUNDS, () -> zoo.may(0, rule) ? 1 : 0);
-            Check.refuses(zoo, "may " + rule + " eat itself", Check.BOUNDS, () -> zoo.may(rule, rule) ? 1 : 0);
-            Check.refuses(zoo, "prey " + rule, Check.BOUNDS, () -> zoo.prey(rule));
-            Check.refuses(zoo, "hunters " + rule, Check.BOUNDS, () -> zoo.hunters(rule));
-            Check.refuses(zoo, "chain " + rule, Check.BOUNDS, () -> zoo.chain(rule));
-        }
-        for (int what : new int[] {-1, 12, Integer.MIN_VALUE, Integer.MAX_VALUE}) {
-            Check.refuses(zoo, "rule(0, " + what + ")", Check.BOUNDS, () -> zoo.rule(0, what));
-        }
-        for (int what : new int[] {-1, 9, Integer.MIN_VALUE, Integer.MAX_VALUE}) {
-            Check.refuses(zoo, "count(" + what + ")", Check.BOUNDS, () -> zoo.count(what));
-        }
-        for (int cage : new int[] {-1, 20, Integer.MIN_VALUE, Integer.MAX_VALUE}) {
-            Check.refuses(zoo, "cage(" + cage + ")", Check.BOUNDS, () -> zoo.cage(cage));
-        }
     }
 
     private static void cageTells() {
