@@ -14,6 +14,7 @@ public final class EdgesOfTermsTest {
         preyIsTheFirstThatItMayEat();
         atMostSixtyAreBorn();
         theSixtiethGoesToTheFirstByNumber();
+        eachOfSixtyEatsAlike();
         hungerIsZeroToNine();
         oneThatStarvedHasTen();
         atFirstAllIsZero();
@@ -192,6 +193,24 @@ public final class EdgesOfTermsTest {
         Check.is("its store", 2, zoo.rule(56, 5));
         Check.is("the 60th", 59, zoo.cage(15));
         Check.is("no 61st", -1, zoo.cage(5));
+    }
+
+    /** "at most 60 in all, numbered from 0": whatever its number is, a rule eats, hunts and starves as each other one. */
+    private static void eachOfSixtyEatsAlike() {
+        for (int eater = 0; eater <= 58; eater++) {
+            RuleZoo zoo = behind(eater);
+            zoo.come(4, 1, 12);
+            zoo.come(5, 4, 11);
+            Check.is("prey of " + eater, eater + 1, zoo.prey(eater));
+            Check.is("chain of " + eater, 2, zoo.chain(eater));
+            Check.is("lives of " + eater, 11, zoo.lives(eater));
+            Check.is("one is gone", 1, zoo.pass(1));
+            Check.is("eaten by " + eater, eater, zoo.rule(eater + 1, 11));
+            Check.is("no hunger of " + eater, 0, zoo.rule(eater, 3));
+            Check.is("none is gone", 0, zoo.pass(9));
+            Check.is("one starves", 1, zoo.pass(1));
+            Check.is("it starved: " + eater, 2, zoo.rule(eater, 9));
+        }
     }
 
     /** "hunger, 0 to 9" */
@@ -564,7 +583,7 @@ public final class EdgesOfTermsTest {
      * 1 in the cage 10 (kind 3, number 4) has eaten so many, and found no free cage around it on any day: 0 in the
      * cage 9 ate two for each one, and had its offspring, as the lower number, in the cage that got free.
      */
-    private static RuleZoo blocked(int meals) {
+    static RuleZoo blocked(int meals) {
         RuleZoo zoo = new RuleZoo();
         zoo.come(9, 3, 5);
         zoo.come(10, 3, 4);

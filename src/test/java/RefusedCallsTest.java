@@ -58,6 +58,7 @@ public final class RefusedCallsTest {
         adviseMindsTheRule();
         anEmptyZooHasNoRule();
         theLastOfSixtyIsARule();
+        anOffspringThatIsDueIsBornAlike();
         Check.end();
     }
 
@@ -567,6 +568,38 @@ public final class RefusedCallsTest {
         Check.is("lives(59)", 2, zoo.lives(59));
         Check.is("advise(59)", 0, zoo.advise(59));
         Check.is("free(59)", 0, zoo.free(59));
+    }
+
+    /** "A method that throws an exception changes nothing": also not what an offspring will take from the latest meal. */
+    private static void anOffspringThatIsDueIsBornAlike() {
+        RuleZoo zoo = EdgesOfTermsTest.blocked(2);
+        int gone = zoo.count(2) - 1;
+        while (zoo.rule(gone, 9) == 0) {
+            gone--;
+        }
+        int away = gone;
+        Check.is("in store", 2, zoo.rule(1, 5));
+        Check.refuses(zoo, "come to the one with a store", Check.STATE, () -> zoo.come(10, 0, 1));
+        Check.refuses(zoo, "come as no kind", Check.ARGUMENT, () -> zoo.come(6, 6, 1));
+        Check.refuses(zoo, "come with no number", Check.ARGUMENT, () -> zoo.come(6, 0, 16));
+        Check.refuses(zoo, "come to no cage", Check.BOUNDS, () -> zoo.come(20, 0, 1));
+        Check.refuses(zoo, "move it to its cage", Check.STATE, () -> zoo.move(1, 10));
+        Check.refuses(zoo, "move it to another one", Check.STATE, () -> zoo.move(1, 9));
+        Check.refuses(zoo, "move another one to it", Check.STATE, () -> zoo.move(0, 10));
+        Check.refuses(zoo, "move it to no cage", Check.BOUNDS, () -> zoo.move(1, 20));
+        Check.refuses(zoo, "move one that is gone", Check.STATE, () -> zoo.move(away, 6));
+        Check.refuses(zoo, "feed one that is gone", Check.STATE, () -> zoo.feed(away));
+        Check.refuses(zoo, "alter it to no number", Check.ARGUMENT, () -> zoo.alter(1, 16));
+        Check.refuses(zoo, "alter one that is gone", Check.STATE, () -> zoo.alter(away, 1));
+        Check.refuses(zoo, "free one that is gone", Check.STATE, () -> zoo.free(away));
+        Check.refuses(zoo, "let no days go by", Check.ARGUMENT, () -> zoo.pass(0));
+        Check.refuses(zoo, "foresee no days", Check.ARGUMENT, () -> zoo.foresee(0, 0));
+        refusesRule(zoo, zoo.count(2));
+        zoo.free(zoo.cage(11));
+        RuleZoo never = EdgesOfTermsTest.blocked(2);
+        never.free(never.cage(11));
+        Check.same("an offspring that is due", never, zoo);
+        Check.is("it was born", 1, zoo.rule(1, 10));
     }
 
     private static void refusesRule(RuleZoo zoo, int rule) {
