@@ -21,6 +21,12 @@ public final class EdgesOfAnswersTest {
             + "alter 14 14;alter 0 3;alter 7 7;come 2 5 15;come 6 4 6;alter 10 13;come 9 4 14;alter 4 8;alter 13 9;"
             + "come 13 0 15";
 
+    /** The rule 3 lives for 19 days in its own cage, 6, for 40 days in the free cage 17, and for 41 in the free cage 18. */
+    private static final String AS_GOOD_AS_FORTY = "come 8 5 9;come 17 4 9;come 4 0 2;pass 1;come 6 4 1;come 12 3 6;"
+            + "come 15 4 1;come 5 0 15;come 1 4 9;come 0 3 11;come 16 4 11;come 2 4 15;come 3 4 1;pass 1;alter 3 15;"
+            + "alter 5 15;alter 11 15;pass 2;come 11 1 5;pass 1;feed 11;pass 2;come 14 4 9;come 4 4 12;come 13 3 5;"
+            + "come 19 0 2;alter 3 9;feed 3;alter 5 8;feed 7;feed 9;alter 10 8;feed 10;alter 11 9";
+
     public static void main(String[] args) {
         aNewZooIsEmptyOnTheDayZero();
         comeTellsTheNextNumber();
@@ -69,6 +75,7 @@ public final class EdgesOfAnswersTest {
         adviseTheLeastNumber();
         adviseOnlyAFreeCage();
         adviseUpToFortyDays();
+        adviseMoreThanFortyIsAsGood();
         meanOfNone();
         meanOfThoseThatAreThere();
         digestWrapsAround();
@@ -801,6 +808,22 @@ public final class EdgesOfAnswersTest {
         zoo.move(7, 17);
         Check.is("40 days", 40, zoo.lives(7));
         Check.is("it stays there", 17, zoo.advise(7));
+    }
+
+    /** "(more, or -1, are as good as 40); of several its own one, or else the one with the least number" */
+    private static void adviseMoreThanFortyIsAsGood() {
+        RuleZoo zoo = Calls.zooBy(AS_GOOD_AS_FORTY);
+        Check.is("19 days", 19, zoo.lives(3));
+        Check.is("of 40 and 41 days the least number", 17, zoo.advise(3));
+        zoo.move(3, 17);
+        Check.is("40 days", 40, zoo.lives(3));
+        Check.is("its own one, though it is 41 days in 18", 17, zoo.advise(3));
+        zoo.move(3, 18);
+        Check.is("41 days", 41, zoo.lives(3));
+        Check.is("its own one, though 17 is less", 18, zoo.advise(3));
+        zoo.move(3, 10);
+        Check.is("less than 40 days", 16, zoo.lives(3));
+        Check.is("the least number again", 17, zoo.advise(3));
     }
 
     // ---- mean and digest
