@@ -3,13 +3,25 @@ import java.math.BigInteger;
 /** Each row of the document that says what is answered at an edge. */
 public final class EdgesOfAnswersTest {
     /**
-     * The longest that a search through many millions of zoos found: a rule, 4, that lives for 43 days, and a zoo that
-     * ends behind 46. No run of calls that is known comes to 50 days, or to the 100 behind which the answer is -1.
+     * The longest that a search through some thousand millions of zoos found: a rule, 1, that lives for 49 days, and a
+     * zoo that ends behind 52, with none. No run of calls that is known comes to the 100 days behind which the answer
+     * is -1; for lives() there is none (NOTES.md tells why).
      */
-    private static final String LIVES_LONG = "come 9 4 3;come 11 1 1;come 10 0 14;pass 1;come 7 5 12;pass 1;pass 1;"
-            + "pass 1;come 12 4 13;come 14 4 15;come 10 3 12;come 5 5 13;come 8 4 15;come 13 3 2;come 6 4 15;alter 4 7;"
-            + "come 18 3 2;alter 0 8;come 4 5 6;alter 9 6;come 15 4 6;alter 13 7;come 16 4 12;alter 12 5;alter 3 5;"
-            + "alter 10 8;come 17 4 15";
+    private static final String LIVES_LONG = "come 18 4 13;come 16 4 9;come 15 1 9;come 5 4 9;come 2 5 12;"
+            + "come 11 5 14;come 13 4 12;come 14 4 14;come 7 1 1;come 17 0 14;pass 1;come 6 5 15;come 3 4 3;"
+            + "alter 1 1;alter 2 1;pass 1;come 4 4 1;come 19 1 2;come 17 2 15;come 0 0 5;come 10 2 15;come 9 4 9;"
+            + "come 8 3 6;come 1 5 15;alter 1 15;alter 3 1;pass 1;move 6 6;move 1 13;move 8 12;move 15 16;move 2 0;"
+            + "move 16 15;move 3 10;move 17 1;move 18 3;move 13 8;move 4 19;move 0 2;move 12 18;move 7 4;move 0 14;"
+            + "move 5 2;move 14 11;move 5 17;come 7 4 9;come 9 5 5;come 5 1 2;alter 1 9;feed 1;alter 2 9;feed 2;"
+            + "alter 3 9;feed 4;feed 5;alter 12 9;alter 15 8;feed 16";
+    private static final String ENDS_LATEST = "come 11 5 12;come 3 3 10;come 17 4 1;pass 1;come 19 3 6;come 15 5 3;"
+            + "come 10 4 1;come 6 4 14;come 13 3 14;come 12 1 3;come 8 0 11;come 9 4 14;come 2 3 2;come 0 4 1;"
+            + "come 18 4 1;come 1 5 7;come 14 3 1;alter 1 12;pass 1;move 4 3;move 8 15;move 6 12;move 3 6;move 9 14;"
+            + "move 10 11;move 12 16;move 13 9;move 14 17;move 5 0;move 7 10;move 5 13;come 4 3 14;come 18 3 14;"
+            + "come 0 1 5;come 19 4 15;come 7 4 12;come 5 4 7;come 8 3 2;come 1 1 1;feed 3;alter 5 8;alter 12 8;"
+            + "alter 13 7";
+
+    /** It ends behind 46 days, with one that is born later, 29. */
     private static final String ENDS_LATE = "come 17 4 10;come 6 3 2;pass 1;come 10 0 15;pass 1;come 11 5 8;come 2 4 9;"
             + "come 3 3 12;come 13 5 13;come 0 4 13;move 1 18;alter 0 14;come 12 0 5;come 14 4 11;alter 7 8;come 15 4 4;"
             + "come 9 0 12;come 19 4 11;come 4 5 13;come 16 3 2;alter 14 12;come 6 0 4;come 5 0 13;alter 10 9;come 1 5 7";
@@ -21,7 +33,7 @@ public final class EdgesOfAnswersTest {
             + "alter 14 14;alter 0 3;alter 7 7;come 2 5 15;come 6 4 6;alter 10 13;come 9 4 14;alter 4 8;alter 13 9;"
             + "come 13 0 15";
 
-    /** The rule 3 lives for 19 days in its own cage, 6, for 40 days in the free cage 17, and for 41 in the free cage 18. */
+    /** The rule 3 lives for 19 days in its own cage, 6, for 40 in the free cage 17, and for 41 in the free cage 18. */
     private static final String AS_GOOD_AS_FORTY = "come 8 5 9;come 17 4 9;come 4 0 2;pass 1;come 6 4 1;come 12 3 6;"
             + "come 15 4 1;come 5 0 15;come 1 4 9;come 0 3 11;come 16 4 11;come 2 4 15;come 3 4 1;pass 1;alter 3 15;"
             + "alter 5 15;alter 11 15;pass 2;come 11 1 5;pass 1;feed 11;pass 2;come 14 4 9;come 4 4 12;come 13 3 5;"
@@ -642,16 +654,16 @@ public final class EdgesOfAnswersTest {
     private static void livesForLong() {
         RuleZoo zoo = Calls.zooBy(LIVES_LONG);
         RuleZoo then = Calls.zooBy(LIVES_LONG);
-        for (int days = 43; days > 0; days--) {
-            Check.is("lives", days, then.lives(4));
-            Check.is("it is there", 0, then.rule(4, 9));
+        for (int days = 49; days > 0; days--) {
+            Check.is("lives", days, then.lives(1));
+            Check.is("it is there", 0, then.rule(1, 9));
             then.pass(1);
         }
-        Check.is("it is gone", 2, then.rule(4, 9));
-        Check.is("lives no more", 0, then.lives(4));
-        Check.is("there behind 42 days", 1, zoo.foresee(42, 0));
-        Check.is("none behind 43 days", 0, zoo.foresee(43, 0));
-        Check.is("43 days", 43, zoo.lives(4));
+        Check.is("it starved", 2, then.rule(1, 9));
+        Check.is("lives no more", 0, then.lives(1));
+        Check.is("two there behind 48 days", 2, zoo.foresee(48, 0));
+        Check.is("one behind 49 days", 1, zoo.foresee(49, 0));
+        Check.is("49 days", 49, zoo.lives(1));
     }
 
     /** "behind how many days at most one rule is there .. 0 if so now" */
@@ -673,14 +685,18 @@ public final class EdgesOfAnswersTest {
 
     /** "at most 100; -1 if not by then": the longest that is known. */
     private static void endsLate() {
-        RuleZoo then = Calls.zooBy(ENDS_LATE);
-        for (int days = 46; days > 0; days--) {
-            Check.is("ends", days, then.ends());
-            Check.isTrue("more than one are there", then.count(1) > 1);
-            then.pass(1);
+        endsBehind(46, 1, Calls.zooBy(ENDS_LATE));
+        endsBehind(52, 0, Calls.zooBy(ENDS_LATEST));
+    }
+
+    private static void endsBehind(int mostDays, int thereThen, RuleZoo zoo) {
+        for (int days = mostDays; days > 0; days--) {
+            Check.is("ends", days, zoo.ends());
+            Check.isTrue("more than one are there", zoo.count(1) > 1);
+            zoo.pass(1);
         }
-        Check.is("one is there", 1, then.count(1));
-        Check.is("now", 0, then.ends());
+        Check.is("there then", thereThen, zoo.count(1));
+        Check.is("now", 0, zoo.ends());
     }
 
     /** "(nothing is changed)": by lives, ends, last and advise. */
@@ -739,9 +755,24 @@ public final class EdgesOfAnswersTest {
         Check.is("it is there", 0, zoo.rule(29, 9));
         Check.is("alone", 1, zoo.count(1));
         Check.is("now", 29, zoo.last());
-        RuleZoo one = Calls.zooBy(LIVES_LONG);
-        Check.is("ends", 41, one.ends());
-        Check.is("the one that lives for 43 days", 4, one.last());
+        RuleZoo other = Calls.zooBy(LIVES_LONG);
+        Check.is("ends behind 49 days", 49, other.ends());
+        Check.is("another one that is born later", 42, other.last());
+        RuleZoo none = Calls.zooBy(ENDS_LATEST);
+        Check.is("none behind 52 days", -1, none.last());
+        none.pass(50);
+        Check.is("none behind the last two", -1, none.last());
+        none.free(none.cage(firstCage(none)));
+        Check.is("the other one, if one is let out", none.cage(firstCage(none)), none.last());
+    }
+
+    /** The first cage that is not free. */
+    private static int firstCage(RuleZoo zoo) {
+        int cage = 0;
+        while (cage < 19 && zoo.cage(cage) == -1) {
+            cage++;
+        }
+        return cage;
     }
 
     // ---- advise
