@@ -50,7 +50,7 @@ public final class LanguageTest {
         faceIsTheDocuments();
         nothingElseIsSeen();
         staticFieldsAreFinal();
-        if (args.length != 1) {
+        if (args.length < 1) {
             System.out.println("call it with the path of RuleZoo.java");
             System.exit(1);
         }
